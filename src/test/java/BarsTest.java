@@ -20,6 +20,7 @@ public final class BarsTest {
     exchanges();
     lines();
     laws();
+    eachLooksForItself();
     Kit.finish();
   }
 
@@ -249,5 +250,65 @@ public final class BarsTest {
     x.tow(1);
     Kit.due("only who is IN", x.law(1), 2);
     Kit.due("only who is IN", x.law(0), 3);
+  }
+
+  /** No answer may hang on what another call has looked at before. */
+  private static void eachLooksForItself() {
+    String row = "street 3 by 1;car a at 0 0 heads 1 hoots 0;car b at 1 0 heads 1 hoots 0;car c at 2 0 heads 1 hoots 0;";
+    Kit.due("loose first", Kit.told(row).loose(), 3);
+    Kit.due("ahead first", Kit.told(row).ahead(0), 6);
+    Kit.due("until first", Kit.told(row).until(0), 3);
+    Kit.due("order first", Kit.told(row).order(), 3);
+    Kit.due("tows first", Kit.told(row).tows(1), 0);
+    Kit.due("ring first", Kit.told(row.replace("2 0 heads 1", "2 0 heads 3")).ring(1), 5);
+    VintageJams x = Kit.told(row);
+    x.steer(2, 3);
+    Kit.due("loose", x.loose(), 0);
+    x.steer(2, 0);
+    Kit.due("until", x.until(0), 3);
+    x.tow(1);
+    Kit.due("until", x.until(0), 2);
+    Kit.due("ahead", x.ahead(0), 4);
+    x.undo();
+    Kit.due("ahead", x.ahead(0), 6);
+    // more were free by an earlier turn, or an earlier exchange, than now can be
+    x = Kit.told("street 3 by 1;car a at 0 0 heads 3 hoots 0;car b at 2 0 heads 1 hoots 0;");
+    Kit.due("turn(2)", x.turn(2), 2);
+    x.tow(1);
+    Kit.due("turn(2)", x.turn(2), 1);
+    Kit.due("turn(0)", x.turn(0), 0);
+    Kit.due("turn(1)", x.turn(1), 0);
+    x.put(1, 1);
+    x.steer(0, 1);
+    x.steer(1, 3);
+    Kit.due("exchange(2)", x.exchange(2), 2);
+    x.tow(0);
+    Kit.due("turn(2)", x.turn(2), 1);
+    // a change with one that is OFF would free more, but does not count
+    x = Kit.told("street 3 by 1;car a at 0 0 heads 1 hoots 0;car b at 2 0 heads 0 hoots 0;car c at 1 0 heads 0 hoots 0;");
+    x.tow(2);
+    Kit.due("exchange(0) with one OFF", x.exchange(0), 0);
+    Kit.due("exchange(1) with one OFF", x.exchange(1), 1);
+    Kit.due("exchange(2) with one OFF", x.exchange(2), 2);
+    x.tow(1);
+    x.put(2, 2);
+    x.steer(2, 3);
+    x.steer(0, 2);
+    Kit.due("free", x.free(), 1);
+    Kit.due("none", x.exchange(0), 0);
+    x = Kit.told("street 2 by 1;car a at 0 0 heads 1 hoots 0;car b at 1 0 heads 1 hoots 0;");
+    Kit.due("alike, nothing gained", x.exchange(0), -1);
+    x = Kit.told("street 4 by 1;car a at 0 0 heads 1 hoots 0;car b at 1 0 heads 1 hoots 0;car c at 3 0 heads 0 hoots 0;");
+    x.tow(2);
+    Kit.due("only with one that is OFF", x.exchange(0), -1);
+    // three in a row: both CELLS are exchanged
+    x = Kit.told("street 3 by 2;car a at 0 0 heads 1 hoots 0;car b at 1 0 heads 0 hoots 0;car c at 2 1 heads 0 hoots 0;");
+    Kit.due("exchange(0)", x.exchange(0), 0);
+    Kit.due("exchange(1)", x.exchange(1), 1);
+    Kit.due("exchange(2)", x.exchange(2), 3);
+    x = Kit.told("street 3 by 1;car a at 0 0 heads 1 hoots 0;car b at 1 0 heads 3 hoots 0;car c at 2 0 heads 3 hoots 0;");
+    Kit.due("exchange(0)", x.exchange(0), 0);
+    Kit.due("exchange(1)", x.exchange(1), 2);
+    Kit.due("exchange(2)", x.exchange(2), 2);
   }
 }

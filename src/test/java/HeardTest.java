@@ -38,8 +38,13 @@ public final class HeardTest {
     Kit.due("untell(30)", x.untell(30), false);
     Kit.due("UNTOLD ones count", x.heard(0, 0, true), -1);
     Kit.due("all FIT", x.fits(0), 100);
-    x.jam();
+    Kit.tell(x, TWO);
     Kit.due("forgotten", x.about(8), 0);
+    Kit.due("untell of what is forgotten", x.untell(0), false);
+    Kit.due("untell of what is forgotten", x.untell(5), false);
+    Kit.due("heard 0", x.heard(0, 0, true), 0);
+    Kit.due("untell(1)", x.untell(1), false);
+    Kit.due("untell(0)", x.untell(0), true);
   }
 
   private static void times() {

@@ -12,6 +12,7 @@ public final class TextTest {
     formulas();
     unitsAndDepth();
     faultsByPlace();
+    oneJamBehindAnother();
     Kit.finish();
   }
 
@@ -362,5 +363,29 @@ public final class TextTest {
     fault("car ?", 1, 4);
     fault("car a at 0 0 heads 0 hoots 0 ?", 1, 29);
     fault("worth " + "1" + Kit.repeat("+1", 29) + "+?;", 1, 66);
+  }
+
+  private static void oneJamBehindAnother() {
+    VintageJams x = new VintageJams();
+    String car = "car a at 0 0 heads 0 hoots 50 body 2;";
+    Kit.due("jam", Kit.tell(x, "worth 1 + 2 + 3;softens 5 * 2;breaks 3;draw 4;" + car), 1);
+    Kit.due("worth", x.worth(0), 6);
+    Kit.due("softer", x.softer(0), 10);
+    Kit.due("units", x.about(11), 5);
+    Kit.due("jam", Kit.tell(x, "softens 7;worth 4 - 1;" + car), 1);
+    Kit.due("worth", x.worth(0), 3);
+    Kit.due("softer", x.softer(0), 7);
+    Kit.due("units", x.about(11), 3);
+    Kit.due("breaks", x.about(13), 0);
+    Kit.due("draw", x.about(5), 0);
+    // what a text with a FAULT told of is not told
+    Kit.due("jam", Kit.tell(x, "worth 77;softens 66;breaks 9;car z at 1 1 heads 0 hoots 0;?"), -1);
+    x.end(0);
+    Kit.due("worth", x.worth(0), 3);
+    Kit.due("softer", x.softer(0), 7);
+    Kit.due("jam", Kit.tell(x, car), 1);
+    Kit.due("worth by default", x.worth(0), -50);
+    Kit.due("softer by default", x.softer(0), 1);
+    Kit.due("units", x.about(11), 0);
   }
 }
