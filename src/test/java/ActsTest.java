@@ -241,16 +241,6 @@ public final class ActsTest {
     Kit.due("ACTS", x.about(6), 8);
   }
 
-  private static String state(VintageJams x) {
-    StringBuilder all = new StringBuilder();
-    for (int car = 0; car < x.about(0); car++) {
-      for (int what = 0; what < 4; what++) {
-        all.append(x.car(car, what)).append(' ');
-      }
-    }
-    return all.append(x.about(4)).append(' ').append(x.about(5)).toString();
-  }
-
   private static void act(VintageJams x, int i) {
     switch (i % 6) {
       case 0:
@@ -278,25 +268,25 @@ public final class ActsTest {
     VintageJams x = Kit.told("breaks 60;" + "draw 3;" + STREET.substring(STREET.indexOf("car")));
     String[] states = new String[30];
     int acts = 0;
-    states[0] = state(x);
+    states[0] = Kit.state(x);
     for (int i = 0; i < 12; i++) {
       act(x, i);
       if (x.about(6) > acts) {
         acts = x.about(6);
-        states[acts] = state(x);
+        states[acts] = Kit.state(x);
       }
     }
     Kit.due("some ACTS", acts > 6, true);
     for (int i = acts - 1; i >= 0; i--) {
       Kit.due("undo", x.undo(), true);
-      Kit.due("as it was", state(x).equals(states[i]), true);
+      Kit.due("as it was", Kit.state(x).equals(states[i]), true);
       Kit.due("about(6)", x.about(6), i);
       Kit.due("about(7)", x.about(7), acts - i);
     }
     Kit.due("undo of nothing", x.undo(), false);
     for (int i = 1; i <= acts; i++) {
       Kit.due("redo", x.redo(), true);
-      Kit.due("as it was then", state(x).equals(states[i]), true);
+      Kit.due("as it was then", Kit.state(x).equals(states[i]), true);
       Kit.due("about(6)", x.about(6), i);
       Kit.due("about(7)", x.about(7), acts - i);
     }
@@ -309,7 +299,7 @@ public final class ActsTest {
     Kit.due("another ACT ends redo", x.about(7), 0);
     Kit.due("redo", x.redo(), false);
     Kit.due("undo", x.undo(), true);
-    Kit.due("as it was", state(x).equals(states[acts - 2]), true);
+    Kit.due("as it was", Kit.state(x).equals(states[acts - 2]), true);
   }
 
   private static void fortyActs() {

@@ -9,16 +9,6 @@ public final class ImageTest {
     Kit.finish();
   }
 
-  private static String state(VintageJams x) {
-    StringBuilder all = new StringBuilder();
-    for (int car = 0; car < x.about(0); car++) {
-      for (int what = 0; what < 4; what++) {
-        all.append(x.car(car, what)).append(' ');
-      }
-    }
-    return all.append(x.about(4)).append(' ').append(x.about(5)).toString();
-  }
-
   private static void boxes() {
     VintageJams x = Kit.told(TEXT);
     Kit.due("image(3)", x.image(3), -1);
@@ -30,7 +20,7 @@ public final class ImageTest {
     }
     x.year();
     Kit.due("ACTS stay", x.about(6), 1);
-    String first = state(x);
+    String first = Kit.state(x);
     Kit.due("image(0)", x.image(0), 1);
     Kit.due("no ACT", x.about(6), 1);
     x.tow(1);
@@ -38,29 +28,29 @@ public final class ImageTest {
     x.polish(0);
     x.year();
     x.year();
-    String second = state(x);
+    String second = Kit.state(x);
     Kit.due("image(2)", x.image(2), 3);
     Kit.due("back(1)", x.back(1), -1);
     x.put(1, 11);
     x.undo();
     Kit.due("back(0)", x.back(0), 1);
-    Kit.due("as it was kept", state(x).equals(first), true);
+    Kit.due("as it was kept", Kit.state(x).equals(first), true);
     Kit.due("no ACTS", x.about(6), 0);
     Kit.due("none to redo", x.about(7), 0);
     Kit.due("undo", x.undo(), false);
     Kit.due("redo", x.redo(), false);
     Kit.due("back(2)", x.back(2), 3);
-    Kit.due("as it was kept", state(x).equals(second), true);
+    Kit.due("as it was kept", Kit.state(x).equals(second), true);
     Kit.due("a BOX stays full", x.back(0), 1);
     x.let(1);
     x.undo();
-    Kit.due("undo to the image", state(x).equals(first), true);
+    Kit.due("undo to the image", Kit.state(x).equals(first), true);
     x.year();
     Kit.due("a BOX anew", x.image(0), 2);
-    String third = state(x);
+    String third = Kit.state(x);
     x.year();
     x.back(0);
-    Kit.due("as it was kept", state(x).equals(third), true);
+    Kit.due("as it was kept", Kit.state(x).equals(third), true);
     x.heard(0, 0, true);
     x.order();
     int lying = x.about(12);

@@ -50,13 +50,24 @@ final class Kit {
     return x;
   }
 
-  /** What lies there, as one text. */
+  /** All that lies there, and nothing behind it. */
   static void dueLies(VintageJams x, String call, int... want) {
     due(call + ": about(12)", x.about(12), want.length);
     for (int i = 0; i < want.length; i++) {
       due(call + ": lies(" + i + ")", x.lies(i), want[i]);
     }
     due(call + ": lies(" + want.length + ")", x.lies(want.length), VintageJams.NONE);
+  }
+
+  /** Where all are, headings, HOOT, BODY, the year, the SEED, as one text. */
+  static String state(VintageJams x) {
+    StringBuilder all = new StringBuilder();
+    for (int car = 0; car < x.about(0); car++) {
+      for (int what = 0; what < 4; what++) {
+        all.append(x.car(car, what)).append(' ');
+      }
+    }
+    return all.append(x.about(4)).append(' ').append(x.about(5)).toString();
   }
 
   static String repeat(String part, int times) {
