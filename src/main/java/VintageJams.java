@@ -77,10 +77,12 @@ public final class VintageJams {
   }
 
   public int jam() {
-    if (!reader.reads(bytes)) {
+    // A FAULT, too, uses up the TAPE: only the JAM and what goes with it stay then.
+    int length = bytes;
+    bytes = 0;
+    if (!reader.reads(length)) {
       return NONE;
     }
-    bytes = 0;
     told.copyFrom(draft);
     street.lay();
     history.begin();

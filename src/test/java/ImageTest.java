@@ -60,7 +60,6 @@ public final class ImageTest {
     Kit.feed(x, "street 9");
     x.jam();
     Kit.due("a FAULT leaves BOXES", x.back(0), 2);
-    x.end(0);
     x.jam();
     for (int box = 0; box < 3; box++) {
       Kit.due("another JAM empties BOXES", x.back(box), -1);

@@ -4,6 +4,7 @@ public final class TextTest {
     newObject();
     tape();
     jamTakesTheTape();
+    tapeBehindFaults();
     goodTexts();
     tokens();
     linesInTheirPlaces();
@@ -84,6 +85,7 @@ public final class TextTest {
     Kit.due("jam()", x.jam(), -1);
     Kit.due("fault(0)", x.fault(0), 1);
     Kit.due("fault(1)", x.fault(1), 19);
+    Kit.due("feed", x.feed(0x64726177, 0x20203132, 0x333b2020, 0x0a0a0a0a, 0x202020e9), 20);
     Kit.due("end(19)", x.end(19), 19);
     Kit.due("jam()", x.jam(), 0);
     Kit.due("about(5)", x.about(5), 123);
@@ -121,7 +123,7 @@ public final class TextTest {
     Kit.due("jam() with a FAULT", x.jam(), -1);
     Kit.due("fault(0)", x.fault(0), 2);
     Kit.due("fault(1)", x.fault(1), 19);
-    Kit.due("stays: TAPE", x.about(10), 20);
+    Kit.due("TAPE behind a FAULT", x.about(10), 0);
     Kit.due("stays: COLUMNS", x.about(1), 4);
     Kit.due("stays: ROWS", x.about(2), 3);
     Kit.due("stays: CARS", x.about(0), 2);
@@ -135,7 +137,7 @@ public final class TextTest {
     Kit.due("stays: breaks", x.about(13), 50);
     Kit.due("stays: BOX", x.back(0), 1);
     x.tow(0);
-    x.end(14);
+    Kit.feed(x, "street 2 by 2;");
     Kit.due("jam()", x.jam(), 0);
     int[] due = {0, 2, 2, 0, 0, 0, 0, 0, 0, 5, 0, 0, 0, 0};
     for (int what = 0; what < due.length; what++) {
@@ -149,6 +151,35 @@ public final class TextTest {
     Kit.due("jam anew: fault(1)", x.fault(1), -1);
     Kit.due("jam of an empty TAPE", x.jam(), 0);
     Kit.due("6 by 6 again", x.about(1) * 10 + x.about(2), 66);
+  }
+
+  /** One FAULT of each sort, and a full TAPE: nothing is left on it, and FAULTS are told till the next jam(). */
+  private static void tapeBehindFaults() {
+    String[] texts = {
+        "draw 7; ?", "draw 7; draw 8;", "car a at 0 0 heads 0 hoots 0; car a", "draw 1000;", "draw 7",
+        "draw 7;" + Kit.repeat(";", 1593)};
+    int[] faults = {1, 2, 3, 4, 2, 2};
+    int[] places = {8, 8, 34, 5, 6, 7};
+    VintageJams x = Kit.told("street 3 by 2;car b at 1 1 heads 1 hoots 9;draw 5;");
+    for (int i = 0; i < texts.length; i++) {
+      String where = "behind FAULT " + faults[i] + " at " + places[i] + ": ";
+      Kit.due(where + "jam()", Kit.tell(x, texts[i]), -1);
+      Kit.due(where + "about(10)", x.about(10), 0);
+      Kit.due(where + "end(1)", x.end(1), -1);
+      Kit.due(where + "end(0)", x.end(0), 0);
+      Kit.due(where + "fault(0)", x.fault(0), faults[i]);
+      Kit.due(where + "fault(1)", x.fault(1), places[i]);
+      Kit.due(where + "CARS", x.about(0), 1);
+      Kit.due(where + "SEED", x.about(5), 5);
+      Kit.due(where + "feed", x.feed(0x64726177, 0x20393b20, 0x20202020, 0x20202020, 0x20202020), 20);
+      x.end(0);
+    }
+    Kit.due("jam() behind FAULTS", Kit.tell(x, "draw 9;"), 0);
+    Kit.due("its SEED", x.about(5), 9);
+    Kit.due("jam() with a FAULT", Kit.tell(x, "street 1 by"), -1);
+    Kit.due("the next jam() is that of an empty TAPE", x.jam(), 0);
+    Kit.due("its FAULT", x.fault(0), 0);
+    Kit.due("its COLUMNS", x.about(1), 6);
   }
 
   private static void goodTexts() {
