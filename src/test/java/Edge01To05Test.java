@@ -384,6 +384,40 @@ public final class Edge01To05Test {
     Kit.due("the last one counts", x.about(5), 7);
   }
 
+  static void promise04_theEighthCarIsAsTold() {
+    VintageJams x = good(Kit.eightInARow(0).replace("at 7 0 heads 0 hoots 0", "at 7 0 heads 3 hoots 99 body 9"), 8);
+    int[] due = {7, 3, 99, 9, 127, 0};
+    for (int what = 0; what < due.length; what++) {
+      Kit.due("car(7, " + what + ")", x.car(7, what), due[what]);
+    }
+  }
+
+  static void promise04_nothingThatTheJamBeforeToldStays() {
+    VintageJams x = Kit.told("street 3 by 2;softens 1 + 2;worth 3 + 4;breaks 5;draw 6;" + CAR + " body 7;");
+    Kit.due("the same NAME, the same CELL", Kit.tell(x, "softens 4;worth 5;" + CAR + ";"), 1);
+    Kit.due("worth", x.worth(0), 5);
+    Kit.due("units", x.about(11), 2);
+    Kit.due("COLUMNS", x.about(1), 6);
+    Kit.due("ROWS", x.about(2), 6);
+    Kit.due("SEED", x.about(5), 0);
+    Kit.due("breaks", x.about(13), 0);
+    Kit.due("BODY", x.car(0, 3), 1);
+    Kit.tell(x, Kit.car(0, 0, 0, 0, 9));
+    Kit.due("softer, not told", x.softer(0), 1);
+    Kit.due("worth, not told", x.worth(0), -9);
+    Kit.due("units", x.about(11), 0);
+  }
+
+  static void promise04_nothingThatATextWithAFaultToldStays() {
+    VintageJams x = Kit.told(Kit.car(0, 0, 0, 0, 9));
+    Kit.tell(x, "street 3 by 2;softens 7;worth 8;breaks 5;draw 6;" + CAR + " body 7;?");
+    Kit.due("softer", x.softer(0), 1);
+    Kit.due("worth", x.worth(0), -9);
+    Kit.tell(x, Kit.car(0, 0, 0, 0, 9));
+    Kit.due("softer", x.softer(0), 1);
+    Kit.due("worth", x.worth(0), -9);
+  }
+
   static void promise04_aStreetIs1To8InBoth() {
     int[] sides = {1, 8};
     for (int columns : sides) {
@@ -465,6 +499,14 @@ public final class Edge01To05Test {
     good("car abcdefgh at 0 0 heads 0 hoots 0;car abcdefg" + behind, 2);
     good("car a at 0 0 heads 0 hoots 0;car aa" + behind, 2);
     fault("car abcdefgh at 0 0 heads 0 hoots 0;car abcdefgh" + behind, 3, 40);
+  }
+
+  static void promise04_namesOfLikeLettersDiffer() {
+    String behind = " at 1 0 heads 0 hoots 0;";
+    String[][] pairs = {{"ab", "ba"}, {"b", "bb"}, {"z", "zz"}, {"az", "ba"}, {"abc", "cab"}, {"aaaaaaaa", "aaaaaaa"}};
+    for (String[] pair : pairs) {
+      good("car " + pair[0] + " at 0 0 heads 0 hoots 0;car " + pair[1] + behind, 2);
+    }
   }
 
   static void promise04_blanksPartOrNot() {
@@ -595,6 +637,9 @@ public final class Edge01To05Test {
       if (!word.equals("hoot")) {
         good("car " + word + "s at 0 0 heads 0 hoots 0;", 1);
       }
+      // another first letter, another last one
+      good("car x" + word.substring(1) + " at 0 0 heads 0 hoots 0;", 1);
+      good("car " + less + "x at 0 0 heads 0 hoots 0;", 1);
     }
   }
 
@@ -619,6 +664,20 @@ public final class Edge01To05Test {
       faultBehind(other + "1", ")", 2);
       fault(other + "1", 2, other.length() + 1);
     }
+  }
+
+  static void promise05_aFormulaThatEndsTooSoon() {
+    String[] parts = {"", "1 + ", "1 * ", "1 < ", "1 and ", "1 or ", "not ", "(", "(1 + ", "(1) - "};
+    for (String part : parts) {
+      faultBehind("worth " + part, ";", 2);
+      faultBehind("worth (" + part, ");", 2);
+      fault("worth " + part, 2, 6 + part.length());
+    }
+    faultBehind("worth (1", ";", 2);
+    faultBehind("worth 1", ");", 2);
+    faultBehind("worth 1 < 2 ", "< 3;", 2);
+    faultBehind("worth 1 + ", "not 1;", 2);
+    faultBehind("worth ", "-1;", 2);
   }
 
   static void promise05_wordsThatBeginNoLine() {

@@ -98,6 +98,14 @@ public final class Edge06To16Test {
     }
   }
 
+  static void promise06_whomTheFirstAndTheEighthBar() {
+    VintageJams x = Kit.told(Kit.eightInARow(1));
+    Kit.due("whom the eighth bars", x.car(7, 5), 127);
+    x = Kit.told(Kit.eightInARow(3));
+    Kit.due("whom the first bars", x.car(0, 5), 254);
+    Kit.due("who bars the eighth", x.car(7, 4), 127);
+  }
+
   static void promise06_aStreetOfOneCell() {
     VintageJams x = Kit.told("street 1 by 1;" + Kit.car(0, 0, 0, 0, 0));
     for (int heading = 1; heading < 4; heading++) {
@@ -206,8 +214,7 @@ public final class Edge06To16Test {
         + Kit.car(0, 0, 0, 0, 0, 0) + Kit.car(1, 0, 7, 0, 99, 9));
     Kit.due("the least", x.worth(0), 0);
     Kit.due("the most", x.worth(1), 9997);
-    x = Kit.told("worth many;" + Kit.eightInARow(0).replace("street 8 by 1;", "").replace("at 6 0", "at 0 1")
-        .replace("at 7 0", "at 1 1"));
+    x = Kit.told(Kit.eightInARow(0) + "worth many;");
     Kit.due("many of eight", x.worth(7), 8);
     for (int car = 0; car < 7; car++) {
       x.tow(car);
@@ -242,7 +249,8 @@ public final class Edge06To16Test {
   }
 
   static void promise09_allSoftensByWhatWasAheadOfTheYear() {
-    VintageJams x = Kit.told("breaks 100;softens bodied + year;" + Kit.car(0, 0, 0, 0, 50, 2) + Kit.car(1, 1, 0, 0, 50, 3));
+    VintageJams x = Kit.told("breaks 100;softens bodied + year;"
+        + Kit.car(0, 0, 0, 0, 50, 2) + Kit.car(1, 1, 0, 0, 50, 3));
     x.year();
     Kit.due("by year 0 and the BODY that was", x.car(0, 2), 48);
     Kit.due("by year 0 and the BODY that was", x.car(1, 2), 47);
@@ -277,6 +285,16 @@ public final class Edge06To16Test {
   static void promise09_allEightLampsBreak() {
     VintageJams x = Kit.told(Kit.eightInARow(0) + "breaks 100;");
     Kit.due("year", x.year(), 255);
+  }
+
+  static void promise09_allEightSoften() {
+    VintageJams x = Kit.told(Kit.eightInARow(0).replace("hoots 0", "hoots 5 body 3") + "breaks 100;");
+    x.year();
+    for (int car = 0; car < 8; car++) {
+      Kit.due("HOOT of " + car, x.car(car, 2), 4);
+      Kit.due("BODY of " + car, x.car(car, 3), 2);
+    }
+    Kit.due("noise", x.noise(), 32);
   }
 
   static void promise09_theSeedIsModulo1000() {
@@ -581,6 +599,40 @@ public final class Edge06To16Test {
     }
     Kit.due("undo", x.undo(), false);
     Kit.due("the year", x.about(4), 1);
+  }
+
+  static void promise15_whatTheOldestDidStaysDone() {
+    VintageJams x = Kit.told("draw 7;" + THREE.substring(14));
+    x.tow(0);
+    String behind = Kit.state(x);
+    for (int i = 0; i < 40; i++) {
+      x.year();
+    }
+    for (int i = 0; i < 40; i++) {
+      x.undo();
+    }
+    Kit.due("undo", x.undo(), false);
+    Kit.due("it stays OFF", Kit.state(x), behind);
+  }
+
+  static void promise15_ofTheEighthCarToo() {
+    VintageJams x = Kit.told(Kit.eightInARow(0).replace("hoots 0", "hoots 9 body 4"));
+    x.polish(7);
+    x.steer(7, 1);
+    x.year();
+    x.tow(7);
+    String done = Kit.state(x);
+    int[] due = {7, 0, 9, 4};
+    for (int i = 0; i < 4; i++) {
+      x.undo();
+    }
+    for (int what = 0; what < 4; what++) {
+      Kit.due("car(7, " + what + ")", x.car(7, what), due[what]);
+    }
+    for (int i = 0; i < 4; i++) {
+      x.redo();
+    }
+    Kit.due("done again", Kit.state(x), done);
   }
 
   static void promise15_callsThatAreNoActsAreNotTakenBack() {

@@ -4,7 +4,8 @@ public final class Edge17To27Test {
 
   /** a (0) stands behind b (1), which faces c (2); d (3) is BARRED by none. */
   private static final String BEHIND_A_PAIR =
-      "street 4 by 4;" + Kit.car(0, 1, 2, 0, 0) + Kit.car(1, 1, 0, 1, 0) + Kit.car(2, 2, 0, 3, 0) + Kit.car(3, 3, 3, 1, 0);
+      "street 4 by 4;" + Kit.car(0, 1, 2, 0, 0) + Kit.car(1, 1, 0, 1, 0) + Kit.car(2, 2, 0, 3, 0)
+          + Kit.car(3, 3, 3, 1, 0);
 
   /** Each even one faces the next odd one. */
   private static final String FOUR_PAIRS;
@@ -218,7 +219,8 @@ public final class Edge17To27Test {
 
   static void promise21_theFewestBeforeTheLeastSet() {
     // 2 faces both 0 and 1: it alone, not both of them
-    VintageJams x = Kit.told("street 6 by 1;" + Kit.car(0, 0, 0, 1, 0) + Kit.car(1, 1, 0, 1, 0) + Kit.car(2, 5, 0, 3, 0));
+    VintageJams x =
+        Kit.told("street 6 by 1;" + Kit.car(0, 0, 0, 1, 0) + Kit.car(1, 1, 0, 1, 0) + Kit.car(2, 5, 0, 3, 0));
     Kit.due("tows(0)", x.tows(0), 1);
     Kit.due("tows(1)", x.tows(1), 4);
   }
@@ -296,6 +298,26 @@ public final class Edge17To27Test {
     VintageJams x = Kit.told("street 3 by 3;" + Kit.car(0, 1, 0, 0, 0) + Kit.car(1, 2, 1, 1, 0) + Kit.car(2, 1, 2, 2, 0)
         + Kit.car(3, 1, 1, 0, 0));
     dueTurn(x, 3, 3, 4);
+  }
+
+  static void promise23_theEighthCar() {
+    // seven in the first row head out of it, the eighth heads for one of them
+    String text = "street 8 by 8;";
+    for (int i = 0; i < 7; i++) {
+      text += Kit.car(i, i, 0, 0, 0);
+    }
+    dueTurn(Kit.told(text + Kit.car(7, 3, 3, 0, 0)), 7, 1, 8);
+  }
+
+  static void promise23_whatWasFoundBeforeDoesNotCount() {
+    VintageJams x = Kit.told(Kit.eightInARow(0));
+    dueTurn(x, 0, 2, 8);
+    for (int car = 0; car < 7; car++) {
+      x.tow(car);
+    }
+    dueTurn(x, 7, 1, 1);
+    x.tow(7);
+    dueTurn(x, -1, -1, -1);
   }
 
   static void promise23_whoIsOffIsNotTurned() {
@@ -384,6 +406,17 @@ public final class Edge17To27Test {
     Kit.due("lot(1)", x.lot(1), 2);
   }
 
+  static void promise25_theLastCellOf64() {
+    // each heads down its own column, the eighth to the left: only the last CELL bars none and is BARRED by none
+    String text = "street 8 by 8;";
+    for (int i = 0; i < 7; i++) {
+      text += Kit.car(i, i, i, 2, 0);
+    }
+    VintageJams x = Kit.told(text + Kit.car(7, 7, 0, 3, 0));
+    x.tow(7);
+    Kit.due("lot(7)", x.lot(7), 63);
+  }
+
   // ---- 26: until
 
   static void promise26_offOrNoneSuch() {
@@ -450,6 +483,14 @@ public final class Edge17To27Test {
     x.tow(0);
     x.tow(1);
     dueExchange(x, 2, 3, 2);
+  }
+
+  static void promise27_whoIsOffIsNotExchanged() {
+    // with c, which is OFF, nobody would be in b's way
+    VintageJams x =
+        Kit.told("street 4 by 1;" + Kit.car(0, 0, 0, 1, 0) + Kit.car(1, 1, 0, 1, 0) + Kit.car(2, 3, 0, 0, 0));
+    x.tow(2);
+    dueExchange(x, -1, -1, -1);
   }
 
   static void promise27_theLastTwo() {

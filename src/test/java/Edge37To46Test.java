@@ -9,7 +9,11 @@ public final class Edge37To46Test {
    *   . . c .
    * </pre>
    */
-  private static final String WALL = "street 4 by 3;" + Kit.car(0, 1, 0, 0, 1) + Kit.car(1, 1, 1, 0, 1) + Kit.car(2, 2, 2, 0, 1);
+  private static final String WALL =
+      "street 4 by 3;" + Kit.car(0, 1, 0, 0, 1) + Kit.car(1, 1, 1, 0, 1) + Kit.car(2, 2, 2, 0, 1);
+  /** Of the last of eight alone WORTH is 1. */
+  private static final String EIGHTH =
+      Kit.eightInARow(0).replace("at 7 0 heads 0 hoots 0", "at 7 0 heads 0 hoots 1") + "worth hoot;";
   private static final int[] NO_CARS = {-1, 3, 8, Kit.LEAST, Kit.MOST};
   private static final int[] NO_CELLS = {-1, 12, 64, Kit.LEAST, Kit.MOST};
 
@@ -108,6 +112,32 @@ public final class Edge37To46Test {
     VintageJams x = Kit.told(WALL);
     Kit.due("window(0, 0)", x.window(0, 0), 0);
     Kit.dueLies(x, "window(0, 0)", 0);
+  }
+
+  static void promise38_eachSideIsBesideIt() {
+    int[] sides = {1, 3, 5, 7};
+    for (int side : sides) {
+      VintageJams x = Kit.told("street 3 by 3;" + Kit.car(0, 1, 1, 0, 0));
+      Kit.due("window(" + side + ", 0)", x.window(side, 0), 0);
+      Kit.dueLies(x, "window(" + side + ", 0)", side);
+    }
+    int[] corners = {0, 2, 6, 8};
+    for (int corner : corners) {
+      VintageJams x = Kit.told("street 3 by 3;" + Kit.car(0, 1, 1, 0, 0));
+      Kit.due("window(" + corner + ", 0)", x.window(corner, 0), 1);
+    }
+  }
+
+  static void promise38_alongTheFirstAndTheLastRow() {
+    VintageJams x = Kit.told("street 4 by 1;" + Kit.car(0, 3, 0, 0, 0));
+    Kit.due("one row", x.window(0, 0), 2);
+    Kit.dueLies(x, "one row", 0, 1, 2);
+    x = Kit.told("street 1 by 4;" + Kit.car(0, 0, 3, 0, 0));
+    Kit.due("one column", x.window(0, 0), 2);
+    Kit.dueLies(x, "one column", 0, 1, 2);
+    x = Kit.told("street 8 by 8;" + Kit.car(0, 7, 7, 0, 0));
+    Kit.due("the last row", x.window(56, 0), 6);
+    Kit.dueLies(x, "the last row", 56, 57, 58, 59, 60, 61, 62);
   }
 
   static void promise38_noneFromACarAndThenNothingLiesThere() {
@@ -287,17 +317,18 @@ public final class Edge37To46Test {
   }
 
   static void promise41_ofLikeOnesTheFirst() {
-    VintageJams x = Kit.told("worth 7;" + Kit.eightInARow(0).replace("street 8 by 1;", "").replace("at 6 0", "at 0 1")
-        .replace("at 7 0", "at 1 1"));
+    VintageJams x = Kit.told(Kit.eightInARow(0) + "worth 7;");
     Kit.due("heir", x.heir(), 0);
     x.tow(0);
     Kit.due("heir", x.heir(), 1);
   }
 
   static void promise41_theLeastAndTheMostPrice() {
-    // without the last one nothing is left of 9999, without the others it is there
-    Kit.due("the most", Kit.told("worth (lane = 1) * 9999;" + Kit.car(0, 0, 0, 0, 0) + Kit.car(1, 0, 1, 0, 0)).heir(), 1);
-    Kit.due("all below 0", Kit.told("worth hoot - 100;" + Kit.car(0, 0, 0, 0, 1) + Kit.car(1, 1, 0, 0, 2)).heir(), 1);
+    // without the last one nothing is left of 9999
+    VintageJams x = Kit.told("worth (lane = 1) * 9999;" + Kit.car(0, 0, 0, 0, 0) + Kit.car(1, 0, 1, 0, 0));
+    Kit.due("the most", x.heir(), 1);
+    x = Kit.told("worth hoot - 100;" + Kit.car(0, 0, 0, 0, 1) + Kit.car(1, 1, 0, 0, 2));
+    Kit.due("all below 0", x.heir(), 1);
   }
 
   static void promise41_manyIsOneLessThen() {
@@ -306,6 +337,21 @@ public final class Edge37To46Test {
         + Kit.car(0, 0, 0, 0, 0) + Kit.car(1, 0, 1, 0, 0));
     Kit.due("finest", x.finest(), 0);
     Kit.due("heir", x.heir(), 1);
+  }
+
+  static void promise41_allOthersCountTogether() {
+    // without the one of 8 there are 12 left, without the others 13 and 15
+    int[][] orders = {{5, 7, 8}, {8, 7, 5}, {7, 8, 5}};
+    int[] due = {2, 0, 1};
+    for (int i = 0; i < 3; i++) {
+      VintageJams x = Kit.told("worth hoot;" + Kit.car(0, 0, 0, 0, orders[i][0]) + Kit.car(1, 1, 0, 0, orders[i][1])
+          + Kit.car(2, 2, 0, 0, orders[i][2]));
+      Kit.due("heir", x.heir(), due[i]);
+    }
+  }
+
+  static void promise41_theEighthCar() {
+    Kit.due("heir", Kit.told(EIGHTH).heir(), 7);
   }
 
   // ---- 42: finest
@@ -329,6 +375,10 @@ public final class Edge37To46Test {
     Kit.due("finest", Kit.told("worth 0 - 9999;" + Kit.car(0, 0, 0, 0, 5) + Kit.car(1, 1, 0, 0, 3)).finest(), 0);
   }
 
+  static void promise42_theEighthCar() {
+    Kit.due("finest", Kit.told(EIGHTH).finest(), 7);
+  }
+
   // ---- 43: fullest
 
   static void promise43_nobody() {
@@ -345,8 +395,20 @@ public final class Edge37To46Test {
 
   static void promise43_theFirstAndTheLastRow() {
     Kit.due("the first", Kit.told(Kit.eightInARow(0)).fullest(), 0);
-    Kit.due("the last", Kit.told("street 2 by 8;" + Kit.car(0, 0, 0, 0, 0) + Kit.car(1, 0, 7, 0, 0) + Kit.car(2, 1, 7, 0, 0))
-        .fullest(), 7);
+    VintageJams x =
+        Kit.told("street 2 by 8;" + Kit.car(0, 0, 0, 0, 0) + Kit.car(1, 0, 7, 0, 0) + Kit.car(2, 1, 7, 0, 0));
+    Kit.due("the last", x.fullest(), 7);
+  }
+
+  static void promise43_theEighthCarCounts() {
+    // two in the first row, two and the eighth in the last
+    String text = "street 8 by 8;" + Kit.car(0, 0, 0, 0, 0) + Kit.car(1, 1, 0, 0, 0) + Kit.car(2, 0, 7, 0, 0)
+        + Kit.car(3, 1, 7, 0, 0);
+    for (int i = 4; i < 7; i++) {
+      text += Kit.car(i, i, i - 2, 0, 0);
+    }
+    Kit.due("fullest", Kit.told(text).fullest(), 0);
+    Kit.due("fullest", Kit.told(text + Kit.car(7, 7, 7, 0, 0)).fullest(), 7);
   }
 
   // ---- 44: law

@@ -50,6 +50,22 @@ public final class Edge47To55Test {
     Kit.due("an UNTOLD one is still one", x.heard(0, 0, true), -1);
   }
 
+  static void promise47_the30thIsAsAnyOther() {
+    VintageJams x = Kit.told(TWO);
+    for (int i = 0; i < 29; i++) {
+      x.heard(0, -9999, true);
+    }
+    x.later(5);
+    // behind 20 YEARS: 60 - (HOOT - 20), so at least 50 if HOOT is 30 at most
+    Kit.due("heard", x.heard(20, 50, true), 29);
+    Kit.due("ahead of it", x.fits(4), 100);
+    Kit.due("from then on", x.fits(5), 31);
+    x.later(5);
+    x.untell(29);
+    Kit.due("till it is UNTOLD", x.fits(9), 31);
+    Kit.due("not from then on", x.fits(10), 100);
+  }
+
   static void promise47_noneWithoutCars() {
     VintageJams x = new VintageJams();
     Kit.due("heard", x.heard(0, 0, true), -1);
@@ -212,6 +228,8 @@ public final class Edge47To55Test {
     x.heard(20, 1, true);
     // behind 20 YEARS the HOOT is 20 less
     Kit.due("behind 20", x.fits(0), 70);
+    Kit.due("the least", x.sure(0, 0), 0);
+    Kit.due("the greatest", x.sure(1, 0), 69);
   }
 
   static void promise50_hootsGoOffTo0AtLeastAndNoLampBreaks() {
@@ -229,6 +247,16 @@ public final class Edge47To55Test {
     Kit.due("fits", x.fits(0), 11);
     x.tow(1);
     Kit.due("fits", x.fits(0), 11);
+  }
+
+  static void promise50_ofAnotherJam() {
+    VintageJams x = Kit.told(TWO);
+    x.heard(0, -10, true);
+    Kit.due("fits", x.fits(0), 11);
+    Kit.tell(x, "worth hoot;" + TWO);
+    Kit.due("nothing is HEARD", x.fits(0), 100);
+    x.heard(0, 10, true);
+    Kit.due("by the new worth", x.fits(0), 90);
   }
 
   static void promise50_theHootAsToldDoesNotCount() {
@@ -437,6 +465,18 @@ public final class Edge47To55Test {
     Kit.due("back", x.back(0), 1);
     Kit.due("as it was kept", Kit.state(x), kept);
     Kit.due("who was OFF is OFF", x.about(3), 1);
+  }
+
+  static void promise54_ofTheEighthCarToo() {
+    VintageJams x = Kit.told(Kit.eightInARow(0).replace("hoots 0", "hoots 9 body 4"));
+    String kept = Kit.state(x);
+    x.image(2);
+    x.polish(7);
+    x.steer(7, 1);
+    x.year();
+    x.tow(7);
+    x.back(2);
+    Kit.due("as it was kept", Kit.state(x), kept);
   }
 
   static void promise54_noActsAreKeptThen() {
